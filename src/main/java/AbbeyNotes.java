@@ -551,7 +551,13 @@ public final class AbbeyNotes {
         }
 
         int land() {
-            return priceOf(lotsOf(OF_STATE));
+            int sum = 0;
+            for (int i = 0; i < LOTS; i++) {
+                if (owner[i] == OF_STATE) {
+                    sum += price[i];
+                }
+            }
+            return sum;
         }
 
         int rate() {
@@ -789,23 +795,29 @@ public final class AbbeyNotes {
         int why;
         int ended;
         int fellIn;
+        /** The ACT that is read: its kind, its ONE, its number (or other ONE), its signs. */
+        private int kind;
+        private int who;
+        private int number;
+        private int length;
 
         /** Follows the text; fellIn is the first of its months that ended with RATE below v. */
         void follow(Pad pad, Realm from, int v) {
             realm.copyFrom(from);
-            acts = 0;
             why = CAN_BE;
             ended = 0;
             fellIn = NONE;
-            for (int place = 0; place < pad.size; place += lengthOfAct(pad.signAt(place))) {
-                why = actAt(pad, place);
+            int place = 0;
+            for (acts = 0; acts < SIGNS && place < pad.size; acts++) {
+                read(pad, place);
+                why = realm.act(kind, who, number);
                 if (why != CAN_BE) {
                     return;
                 }
-                acts++;
-                if (pad.signAt(place) == '.') {
+                if (kind == END) {
                     endMonth(v);
                 }
+                place += length;
             }
         }
 
@@ -816,43 +828,38 @@ public final class AbbeyNotes {
             ended++;
         }
 
-        private static int lengthOfAct(int first) {
-            switch (first) {
-                case '.':
-                    return 1;
-                case '+':
-                    return 2;
-                default:
-                    return 3;
-            }
-        }
-
-        private int actAt(Pad pad, int place) {
+        private void read(Pad pad, int place) {
             int first = pad.signAt(place);
             int second = pad.signAt(place + 1);
-            int third = pad.signAt(place + 2);
+            kind = kindOf(first, second);
+            length = kind == END ? 1 : kind == PRINT ? 2 : 3;
+            who = length < 3 ? 0 : (kind == FORGE ? second : first) - 'A';
+            number = pad.signAt(place + length - 1) - (kind == SETTLE ? 'A' : '0');
+        }
+
+        private static int kindOf(int first, int second) {
             switch (first) {
                 case '.':
-                    return realm.act(END, 0, 0);
+                    return END;
                 case '+':
-                    return realm.act(PRINT, 0, second - '0');
+                    return PRINT;
                 case '!':
-                    return realm.act(FORGE, second - 'A', third - '0');
+                    return FORGE;
                 default:
-                    return deedOf(first - 'A', second, third);
+                    return kindOfDeed(second);
             }
         }
 
-        private int deedOf(int who, int deed, int sign) {
-            switch (deed) {
+        private static int kindOfDeed(int sign) {
+            switch (sign) {
                 case '$':
-                    return realm.act(BUY, who, sign - '0');
+                    return BUY;
                 case '/':
-                    return realm.act(EXCHANGE, who, sign - '0');
+                    return EXCHANGE;
                 case '>':
-                    return realm.act(SETTLE, who, sign - 'A');
+                    return SETTLE;
                 default:
-                    return realm.act(PAID, who, sign - '0');
+                    return PAID;
             }
         }
     }

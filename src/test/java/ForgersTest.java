@@ -97,6 +97,8 @@ public final class ForgersTest {
         x.forget();
         x.seen(0, 0, 0);
         Check.due("none of none", x.clerks(3, -1), 93);
+        Check.due("none of one", x.seen(4, 0, 0), 2);
+        Check.due("it is that one", x.clerks(1, 0), 4);
     }
 
     private static void count() {
@@ -115,6 +117,17 @@ public final class ForgersTest {
         Check.due("one of two", x.count(1, 0), 6);
         Check.due("one is left", x.count(1, 1), 1);
         x.seen(192, 2, 1);
+        Check.due("no set fits", x.count(1, 0), Check.NONE);
+        x.forget();
+        x.seen(3, 1, 0);
+        x.seen(1, 1, 0);
+        x.seen(6, 0, 0);
+        Check.due("certain ones do not help", x.count(3, 0), 3);
+        x.forget();
+        x.seen(6, 1, 0);
+        Check.due("chest 1 halves them", x.count(1, 0), 1);
+        Check.due("chest 1 halves them", x.count(1, 1), 1);
+        x.seen(6, 2, 0);
         Check.due("no set fits", x.count(1, 0), Check.NONE);
         Check.due("no set fits", x.count(1, 1), Check.NONE);
         Check.due("outside ahead of none", x.count(1, 2), Check.OUTSIDE);
@@ -138,6 +151,7 @@ public final class ForgersTest {
             Check.due("lots of year 1", x.year(1, m, 2), m == 1 ? 255 : 251);
         }
         Check.due("the least seed", x.year(0, 1, 0), 600);
+        Check.due("the most acts, the greatest seed", x.year(9999, 99, 1) >= 0 ? 1 : 0, 1);
         for (int seed = 0; seed <= 9999; seed += 7) {
             followed(new AbbeyNotes(), seed, 1 + seed % 85);
         }
@@ -214,7 +228,7 @@ public final class ForgersTest {
         Check.due("kept", x.image(0), 1);
         String kept = Check.all(x);
         x.forget();
-        x.seen(1, 1, 1);
+        x.seen(1, 0, 1);
         x.seen(2, 1, 1);
         x.one(2, 5, 6);
         x.owe(1, 2, 0);

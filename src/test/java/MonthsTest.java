@@ -87,6 +87,10 @@ public final class MonthsTest {
         Check.due("paid", x.behind(3, 0), 300);
         Check.due("paid notes", x.total(0), 899);
         cannot(x, "D@3", 0, 3);
+        x.set(0, 300);
+        can(x, "D@3", 0);
+        Check.due("paid all", x.behind(3, 0), 400);
+        x.set(0, 299);
         cannot(x, "D@1D@2", 1, 3);
         x.one(3, 9799, 0);
         can(x, "D@2", 0);
@@ -153,6 +157,11 @@ public final class MonthsTest {
         Check.due("paid last", x.behind(2, 0), 130);
         cannot(x, "A>A", 0, 1);
         cannot(x, "B>A", 0, 4);
+        x.owe(3, 0, 40);
+        x.owe(3, 5, 2);
+        can(x, "", 0);
+        Check.due("owes in all", x.behind(3, 3), 42);
+        x.owe(3, 0, 0);
         cannot(x, "A>BA>B", 1, 4);
         cannot(x, "A>BA>CA>C", 2, 4);
         x.one(1, 9929, 0);
@@ -269,6 +278,14 @@ public final class MonthsTest {
             Check.due("pairs' sum", x.struck(1), 10 * (i + 1));
         }
         // A and D settle among themselves, and so do B, C and E; whoever pays by size first splits these groups.
+        x.owe(5, 0, 4);
+        Check.due("a chain", x.struck(0), 3);
+        Check.due("a chain's sum", x.struck(1), 26);
+        x.owe(1, 0, 6);
+        Check.due("A is even", x.struck(0), 3);
+        Check.due("A is even, sum", x.struck(1), 20);
+        x.owe(1, 0, 900);
+        Check.due("A is paid most", x.struck(1), 910);
         AbbeyNotes y = new AbbeyNotes();
         y.owe(0, 5, 6);
         y.owe(1, 5, 3);

@@ -58,7 +58,8 @@ public final class PeopleTest {
     private static void owe() {
         AbbeyNotes x = new AbbeyNotes();
         Check.due("owe", x.owe(2, 3, 999), 0);
-        Check.due("owe again", x.owe(2, 3, 1), 999);
+        Check.due("owe nothing", x.owe(2, 3, 0), 999);
+        Check.due("owe again", x.owe(2, 3, 1), 0);
         Check.due("owe the other way", x.owe(3, 2, 5), 0);
         Check.due("owe told", x.told(223), 1);
         Check.due("owe told the other way", x.told(232), 5);
@@ -85,6 +86,14 @@ public final class PeopleTest {
         Check.due("lot again", x.lot(7, 1, -1), 999);
         Check.due("lot is the state's", x.told(171), Check.NONE);
         Check.due("land", x.told(7), 701);
+        Check.due("rate at par at the most", x.told(8), 100);
+        x.set(0, 102);
+        Check.due("rate cut", x.told(8), 99);
+        for (int i = 0; i < 6; i++) {
+            x.one(i, 0, 0);
+        }
+        x.set(0, 0);
+        Check.due("rate without notes", x.told(8), 100);
         String before = Check.all(x);
         int[] no = {-1, 8, LEAST, MOST};
         for (int i : no) {

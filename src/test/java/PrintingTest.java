@@ -88,6 +88,8 @@ public final class PrintingTest {
         Check.due("one lot too dear", x.buys(99, 0), 0);
         Check.due("no set", x.buys(99, 1), 0);
         Check.due("least bits", x.buys(250, 1), 3);
+        Check.due("the first lot", x.buys(100, 1), 1);
+        Check.due("an empty purse", x.buys(0, 0), 0);
         Check.due("all", x.buys(9999, 1), 255);
         int[] price = {60, 50, 41, 33, 27, 19, 11, 7};
         for (int lot = 0; lot < 8; lot++) {
@@ -117,6 +119,11 @@ public final class PrintingTest {
         Check.due("below 88", x.runs(801, 0, 88), 2);
         Check.due("below 38", x.runs(801, 0, 38), 3);
         Check.due("below 9", x.runs(801, 0, 9), 4);
+        // 890: 89, +1100; 1990: 40, +6000; 7990: 10, +9000; 16990: 4
+        Check.due("below 11", x.runs(890, 0, 11), 2);
+        Check.due("below 10", x.runs(890, 0, 10), 3);
+        // 813: 98, +200; 1013: 78 (1012 would be 79)
+        Check.due("just a hundred each", x.runs(813, 0, 79), 1);
         // 99 and 1 of each hundred: 0 more, cut; 250 and 1 of each hundred: 2 more, cut; 150 and 1: 1 more.
         Check.due("cut to nothing", x.runs(99, 1, 100), Check.NONE);
         // 51 of 199 is 101, 51 of 300 is 153, 51 of 453 is 231, 51 of 684 is 348: in whole hundreds alone it would be later.
@@ -161,6 +168,7 @@ public final class PrintingTest {
             Check.due("a row that ends", x.wages(1, n), n == 0 ? 0 : 1);
             Check.due("a row that begins", x.wages(900000000, n), n == 0 ? 0 : 9);
         }
+        Check.due("no prices", x.wages(0, 3), 0);
         Check.due("up and down by 1", x.wages(909090909, 1), 45);
         Check.due("up and down by 2", x.wages(909090909, 2), 9);
         Check.due("what is won does not count", x.wages(987654321, 1), 9);
@@ -188,6 +196,8 @@ public final class PrintingTest {
         changeIs(x, 1, 1, 5, 1, 1, 1);
         // Two months at 0 with t 5: half of (1/2), half of 1 (at 1 it is the same): 3/4.
         changeIs(x, 0, 2, 5, 3, 4, 0);
+        changeIs(x, 0, 0, 5, 0, 1, 1);
+        changeIs(x, 3, 1, 10, 3, 1, 1);
         changeIs(x, 60, 8, 0, 68, 1, 0);
         changeIs(x, 60, 8, 10, 60, 1, 1);
     }
