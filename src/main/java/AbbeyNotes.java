@@ -370,7 +370,7 @@ public final class AbbeyNotes {
             case 1:
                 return realm.rate();
             default:
-                return realm.lotsOf(OF_STATE);
+                return Integer.bitCount(realm.lotsOf(OF_STATE));
         }
     }
 

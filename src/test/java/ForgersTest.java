@@ -148,7 +148,7 @@ public final class ForgersTest {
         for (int m = 1; m <= 5; m++) {
             Check.due("notes of year 1", x.year(1, m, 0), notes[m - 1]);
             Check.due("rate of year 1", x.year(1, m, 1), rate[m - 1]);
-            Check.due("lots of year 1", x.year(1, m, 2), m == 1 ? 255 : 251);
+            Check.due("lots of year 1", x.year(1, m, 2), m == 1 ? 8 : 7);
         }
         Check.due("the least seed", x.year(0, 1, 0), 600);
         Check.due("the most acts, the greatest seed", x.year(9999, 99, 1) >= 0 ? 1 : 0, 1);
@@ -163,6 +163,19 @@ public final class ForgersTest {
         followed(x, 4242, 85);
         Check.say(x, "A>A");
         followed(x, 77, 40);
+        lotsOfAYear();
+    }
+
+    /** LOTS are told by how many there are, whichever they are: by seed 0 C changes 20 (74), nothing is bought. */
+    private static void lotsOfAYear() {
+        AbbeyNotes x = new AbbeyNotes();
+        for (int lot = 7; lot >= 0; lot--) {
+            Check.due("lots of a year without a purchase", x.year(0, 1, 2), lot + 1);
+            x.lot(lot, 1 + lot, lot % 6);
+        }
+        Check.due("no lots of a year", x.year(0, 1, 2), 0);
+        x.lot(5, 999, -1);
+        Check.due("one lot alone is left", x.year(0, 1, 2), 1);
     }
 
     /** A YEAR told as ACTS on another object, those alone done that can be. */
@@ -185,7 +198,7 @@ public final class ForgersTest {
         }
         int lots = 0;
         for (int lot = 0; lot < 8; lot++) {
-            lots |= y.told(101 + 10 * lot) == Check.NONE ? 1 << lot : 0;
+            lots += y.told(101 + 10 * lot) == Check.NONE ? 1 : 0;
         }
         Check.due("year's notes " + seed, x.year(seed, m, 0), y.told(6));
         Check.due("year's rate " + seed, x.year(seed, m, 1), y.told(8));

@@ -406,7 +406,9 @@ final class Model {
                 "!" + who + digit, "."};
             act(of, acts[(int) (x / 6 % 8)]);
         }
-        return new int[] {notes(of), rate(of), lots(of, -1)}[what];
+        int stateLots = 0;
+        for (int lot = 0; lot < 8; lot++) if (of.get("owner " + lot) == -1) stateLots++;
+        return new int[] {notes(of), rate(of), stateLots}[what];
     }
 
     int image(int k) {
