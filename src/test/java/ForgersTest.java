@@ -153,16 +153,16 @@ public final class ForgersTest {
         Check.due("the least seed", x.year(0, 1, 0), 600);
         Check.due("the most acts, the greatest seed", x.year(9999, 99, 1) >= 0 ? 1 : 0, 1);
         for (int seed = 0; seed <= 9999; seed += 7) {
-            followed(new AbbeyNotes(), seed, 1 + seed % 85);
+            Years.followed(new AbbeyNotes(), seed, 1 + seed % 85);
         }
         Check.same("nothing is done in fact", Check.all(x), before);
         x.one(0, 9999, 0);
         x.lot(6, 1, 2);
         x.set(0, 3000);
         x.owe(4, 1, 300);
-        followed(x, 4242, 85);
+        Years.followed(x, 4242, 85);
         Check.say(x, "A>A");
-        followed(x, 77, 40);
+        Years.followed(x, 77, 40);
         lotsOfAYear();
     }
 
@@ -176,49 +176,6 @@ public final class ForgersTest {
         Check.due("no lots of a year", x.year(0, 1, 2), 0);
         x.lot(5, 999, -1);
         Check.due("one lot alone is left", x.year(0, 1, 2), 1);
-    }
-
-    /** A YEAR told as ACTS on another object, those alone done that can be. */
-    private static void followed(AbbeyNotes x, int seed, int m) {
-        AbbeyNotes y = copyOf(x);
-        long draw = seed;
-        for (int i = 0; i < m; i++) {
-            draw = (75 * draw + 74) % 65537;
-            char who = (char) ('A' + draw % 6);
-            long rest = draw / 48;
-            String[] acts = {"+" + (rest % 9 + 1), who + "@" + (rest % 9 + 1), who + "$" + rest % 8, who + "$" + rest % 8,
-                who + "/" + (rest % 9 + 1), who + ">" + (char) ('A' + rest % 6), "!" + who + (rest % 9 + 1), "."};
-            String act = acts[(int) (draw / 6 % 8)];
-            for (int k = 0; k < act.length(); k++) {
-                y.say(act.charAt(k));
-            }
-            if (y.done() < 0) {
-                y.wipe();
-            }
-        }
-        int lots = 0;
-        for (int lot = 0; lot < 8; lot++) {
-            lots += y.told(101 + 10 * lot) == Check.NONE ? 1 : 0;
-        }
-        Check.due("year's notes " + seed, x.year(seed, m, 0), y.told(6));
-        Check.due("year's rate " + seed, x.year(seed, m, 1), y.told(8));
-        Check.due("year's lots " + seed, x.year(seed, m, 2), lots);
-    }
-
-    private static AbbeyNotes copyOf(AbbeyNotes x) {
-        AbbeyNotes y = new AbbeyNotes();
-        y.set(0, x.told(1));
-        y.set(1, x.told(2));
-        for (int i = 0; i < 6; i++) {
-            y.one(i, x.told(10 + 10 * i), x.told(11 + 10 * i));
-            for (int k = 0; k < 6; k++) {
-                y.owe(i, k, x.told(200 + 10 * i + k));
-            }
-        }
-        for (int lot = 0; lot < 8; lot++) {
-            y.lot(lot, x.told(100 + 10 * lot), Math.max(-1, x.told(101 + 10 * lot)));
-        }
-        return y;
     }
 
     private static void images() {
@@ -305,18 +262,7 @@ public final class ForgersTest {
             Check.due("told price", x.told(100 + 10 * lot), 401 + lot);
             Check.due("told whose", x.told(101 + 10 * lot), lot % 7 == 0 ? Check.NONE : lot % 7 - 1);
         }
-        for (int what = -300; what < 600; what++) {
-            if (!isTold(what)) {
-                Check.due("told outside " + what, x.told(what), Check.OUTSIDE);
-            }
-        }
         Check.due("told least", x.told(Integer.MIN_VALUE), Check.OUTSIDE);
         Check.due("told most", x.told(Integer.MAX_VALUE), Check.OUTSIDE);
-    }
-
-    private static boolean isTold(int what) {
-        int digit = Math.floorMod(what, 10);
-        return what >= 0 && what <= 8 || what >= 10 && what < 70 && digit <= 2 || what >= 100 && what < 180 && digit <= 1
-                || what >= 200 && what < 260 && digit <= 5;
     }
 }

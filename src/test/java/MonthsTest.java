@@ -32,13 +32,13 @@ public final class MonthsTest {
     }
 
     private static void refusals() {
-        AbbeyNotes x = new AbbeyNotes();
         String[] texts = {"A", "+0", "A>A", "+1"};
         int[] first = {Check.NO, Check.NO, 0, Check.NONE};
         int[] rest = {Check.NO, Check.NO, Check.STATE, 0};
         for (int i = 0; i < texts.length; i++) {
             String text = texts[i];
-            Check.anew(x, text);
+            AbbeyNotes x = new AbbeyNotes();
+            Check.say(x, text);
             Check.due("judge low " + text, x.judge(-1), Check.OUTSIDE);
             Check.due("judge high " + text, x.judge(3), Check.OUTSIDE);
             Check.due("judge " + text, x.judge(0), first[i]);

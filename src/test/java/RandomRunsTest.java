@@ -9,6 +9,7 @@ public final class RandomRunsTest {
     private final AbbeyNotes x = new AbbeyNotes();
     private final Model model = new Model();
     private String text = "";
+    private int calls;
 
     private RandomRunsTest(int seed) {
         random = new Random(seed);
@@ -22,8 +23,9 @@ public final class RandomRunsTest {
     }
 
     private void run(int run) {
-        for (int i = 0; i < CALLS; i++) {
-            call("run " + run + " call " + i + " ");
+        // One step makes two calls at the most.
+        for (calls = 1; calls < CALLS; calls++) {
+            call("run " + run + " call " + calls + " ");
         }
     }
 
@@ -167,6 +169,7 @@ public final class RandomRunsTest {
         Check.due(where + "done", got, model.done());
         if (got < 0 && random.nextBoolean()) {
             text = "";
+            calls++;
             Check.due(where + "wipe", x.wipe(), model.wipe());
         }
     }
