@@ -1,5 +1,10 @@
 /** Why an ACT can not be: each reason just not yet and just so, and the least one where several hold. */
 public final class ReasonsTest {
+    private static final String THREE = "3 he has too little PAPER ($, /), the STATE has (@)";
+    private static final String FOUR = "4 he OWES that one nothing, or has no PAPER (>)";
+    private static final String FIVE =
+        "5 some ONE, the STATE would have more than is told above, or FORGED would be more (+, !, /, >, @)";
+
     public static void main(String[] args) {
         bothAreOne();
         notTheStates();
@@ -58,7 +63,7 @@ public final class ReasonsTest {
     }
 
     private static void tooLittleToBuy() {
-        Check.sentence("3 he has too little PAPER ($)");
+        Check.sentence(THREE);
         AbbeyNotes x = new AbbeyNotes();
         for (int price : new int[] {1, 2, 100, 999}) {
             x.lot(4, price, -1);
@@ -71,7 +76,7 @@ public final class ReasonsTest {
     }
 
     private static void tooLittleToChange() {
-        Check.sentence("3 he has too little PAPER (/)");
+        Check.sentence(THREE);
         for (int n = 1; n <= 9; n++) {
             AbbeyNotes x = new AbbeyNotes();
             x.one(2, 10 * n, 0);
@@ -83,7 +88,7 @@ public final class ReasonsTest {
     }
 
     private static void stateHasTooLittle() {
-        Check.sentence("3 the STATE has too little PAPER (@)");
+        Check.sentence(THREE);
         for (int n = 1; n <= 9; n++) {
             AbbeyNotes x = new AbbeyNotes();
             x.set(0, 100 * n);
@@ -96,7 +101,7 @@ public final class ReasonsTest {
     }
 
     private static void owesNothing() {
-        Check.sentence("4 he OWES that one nothing (>)");
+        Check.sentence(FOUR);
         AbbeyNotes x = new AbbeyNotes();
         cannot(x, "A>B", 0, 4);
         x.owe(1, 0, 5);
@@ -108,7 +113,7 @@ public final class ReasonsTest {
     }
 
     private static void hasNoPaper() {
-        Check.sentence("4 he has no PAPER (>)");
+        Check.sentence(FOUR);
         AbbeyNotes x = new AbbeyNotes();
         x.owe(0, 1, 5);
         x.one(0, 0, 9999);
@@ -120,7 +125,7 @@ public final class ReasonsTest {
     }
 
     private static void tooMuchPrinted() {
-        Check.sentence("5 the STATE would have more than is told above (+)");
+        Check.sentence(FIVE);
         for (int n = 1; n <= 9; n++) {
             AbbeyNotes x = new AbbeyNotes();
             x.set(0, 99999 - 100 * n);
@@ -131,7 +136,7 @@ public final class ReasonsTest {
     }
 
     private static void tooMuchForged() {
-        Check.sentence("5 some ONE would have more, or FORGED would be more (!)");
+        Check.sentence(FIVE);
         for (int n = 1; n <= 9; n++) {
             AbbeyNotes x = new AbbeyNotes();
             x.one(3, 9999 - 100 * n, 0);
@@ -148,7 +153,7 @@ public final class ReasonsTest {
     }
 
     private static void tooMuchChanged() {
-        Check.sentence("5 some ONE, the STATE would have more than is told above (/)");
+        Check.sentence(FIVE);
         for (int n = 1; n <= 9; n++) {
             AbbeyNotes x = new AbbeyNotes();
             x.one(4, 100, 9999 - 10 * n);
@@ -166,7 +171,7 @@ public final class ReasonsTest {
     }
 
     private static void tooMuchPaidBack() {
-        Check.sentence("5 some ONE would have more than is told above (>)");
+        Check.sentence(FIVE);
         AbbeyNotes x = new AbbeyNotes();
         x.owe(0, 1, 30);
         x.one(1, 9969, 0);
@@ -183,7 +188,7 @@ public final class ReasonsTest {
     }
 
     private static void tooMuchPaid() {
-        Check.sentence("5 some ONE would have more than is told above (@)");
+        Check.sentence(FIVE);
         for (int n = 1; n <= 9; n++) {
             AbbeyNotes x = new AbbeyNotes();
             x.set(0, 99999);
@@ -195,8 +200,9 @@ public final class ReasonsTest {
         }
     }
 
+    /** Reason 5 is not for $: who buys has less then, and BURNT has no limit. */
     private static void buyingHasNoLimit() {
-        Check.sentence("(+, !, /, >, @): not $, who buys has less then, and BURNT has no limit");
+        Check.sentence(FIVE);
         AbbeyNotes x = new AbbeyNotes();
         x.one(0, 9999, 9999);
         x.set(0, 99999);

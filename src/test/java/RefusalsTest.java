@@ -36,7 +36,7 @@ public final class RefusalsTest {
         Check.due("lot(0, 0, 6)", x.lot(0, 0, 6), Check.UNKNOWN);
         Check.due("lot(7, 1000, -2)", x.lot(7, 1000, -2), Check.UNKNOWN);
         Check.due("lot(7, 1000, -1)", x.lot(7, 1000, -1), Check.OUTSIDE);
-        Check.sentence("BEHIND: UNKNOWN; OUTSIDE; NO, STATE, as of judge(2)");
+        Check.sentence("UNKNOWN; OUTSIDE; NO, STATE, as of judge(2)");
         Check.due("behind(-1, -1)", x.behind(-1, -1), Check.UNKNOWN);
         Check.due("behind(6, 4)", x.behind(6, 4), Check.UNKNOWN);
         Check.due("behind(5, 4)", x.behind(5, 4), Check.OUTSIDE);
@@ -66,9 +66,9 @@ public final class RefusalsTest {
     }
 
     private static void outsideAheadOfState() {
-        Check.sentence("OUTSIDE -2 (another number is not as told), STATE -3 (as told)");
+        Check.sentence("OUTSIDE -2 (another number is not as told), NO -5 (as told), STATE -3 (as told)");
         numbersFirst("A>A");
-        Check.sentence("restore: OUTSIDE; STATE: it was not");
+        Check.sentence("OUTSIDE; STATE: it was not");
         AbbeyNotes x = new AbbeyNotes();
         Check.due("restore(-1)", x.restore(-1), Check.OUTSIDE);
         Check.due("restore(2)", x.restore(2), Check.OUTSIDE);

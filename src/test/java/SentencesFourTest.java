@@ -4,7 +4,9 @@ public final class SentencesFourTest {
         sampleEdges();
         sampleThatCanNotBe();
         sampleInLowestTerms();
+        setsAreBits();
         sights();
+        forgotten();
         justSoMany();
         soManyAtLeast();
         atTheMostSoManyUntrue();
@@ -12,6 +14,7 @@ public final class SentencesFourTest {
         countTheLeast();
         countNone();
         yearBySeed();
+        yearDraws();
         yearActs();
         yearIfThatCanBe();
         yearAtTheLimits();
@@ -49,7 +52,7 @@ public final class SentencesFourTest {
     }
 
     private static void sampleThatCanNotBe() {
-        Check.sentence("SAMPLE: that j (0 to k) of them are");
+        Check.sentence("that j (0 to k) of them are");
         AbbeyNotes x = new AbbeyNotes();
         sampleIs(x, 1, 0, 1, 1, 0, 1);
         sampleIs(x, 1, 1, 1, 0, 0, 1);
@@ -70,10 +73,23 @@ public final class SentencesFourTest {
         sampleIs(x, 5, 2, 2, 2, 1, 10);
     }
 
+    private static void setsAreBits() {
+        Check.sentence("Sets are bits");
+        for (int i = 0; i < 8; i++) {
+            AbbeyNotes x = new AbbeyNotes();
+            x.lot(i, 99, 3);
+            Check.due("LOTS of D", x.told(42), 1 << i);
+            Check.due("LOTS of D behind no text", x.behind(3, 2), 1 << i);
+            x.lot(i, 99, -1);
+            Check.due("the LOT for a purse", x.buys(99, 1), 1 << i);
+            x.seen(1 << i, 0, 0);
+            Check.due("the clerk who did not", x.clerks(1, 0), 1 << i);
+        }
+    }
+
     private static void sights() {
         Check.sentence("SIGHTS, 8 at most");
         AbbeyNotes x = new AbbeyNotes();
-        Check.due("none to forget", x.forget(), 0);
         for (int i = 1; i <= 8; i++) {
             Check.due("told ahead of it", x.told(5), i - 1);
             // The last one alone is of chest 0.
@@ -84,12 +100,23 @@ public final class SentencesFourTest {
         Check.due("the last one is looked at", x.clerks(1, -1), 1);
         Check.due("chest 0 was not burnt truly", x.clerks(1, 0), 1);
         Check.due("those of 3 with chest 0", x.clerks(3, -1), 1 + 7 + 21);
-        Check.due("forgotten", x.forget(), 8);
-        Check.due("none", x.told(5), 0);
-        Check.due("none looked at", x.clerks(1, -1), 9);
-        Check.due("none to forget", x.forget(), 0);
-        Check.due("from the first on", x.seen(0, 0, 0), 1);
-        Check.due("forgotten", x.forget(), 1);
+    }
+
+    private static void forgotten() {
+        Check.sentence("SIGHTS go: how many there were");
+        AbbeyNotes x = new AbbeyNotes();
+        Check.due("none", x.forget(), 0);
+        x.seen(1, 0, 0);
+        Check.due("one", x.forget(), 1);
+        Check.due("gone", x.forget(), 0);
+        Check.due("told", x.told(5), 0);
+        Check.due("not looked at", x.clerks(1, -1), 9);
+        for (int i = 1; i <= 8; i++) {
+            Check.due("from the first on", x.seen(0, 1, 0), i);
+        }
+        Check.due("all", x.forget(), 8);
+        Check.due("not looked at", x.clerks(3, -1), 93);
+        Check.due("room again", x.seen(0, 0, 0), 1);
     }
 
     private static void justSoMany() {
@@ -186,10 +213,16 @@ public final class SentencesFourTest {
         x.forget();
         x.seen(28, 0, 0);
         Check.due("all three are known: one set", x.count(3, 1), 1);
+        for (int chest = 0; chest < 8; chest++) {
+            x.forget();
+            x.seen(255 & ~(1 << chest), 7, 0);
+            Check.due("all others are known", x.count(1, 0), chest);
+            Check.due("all others are known, how many", x.count(1, 1), 1);
+        }
     }
 
     private static void countNone() {
-        Check.sentence("COUNT; NONE: no set fits");
+        Check.sentence("COUNT: the chest (what = 0), how many (1); NONE: no set fits");
         AbbeyNotes x = new AbbeyNotes();
         x.seen(255, 7, 0);
         Check.due("none of 0", x.count(0, 0), Check.NONE);
@@ -216,6 +249,32 @@ public final class SentencesFourTest {
         Check.due("seed 9999, RATE", x.year(9999, 1, 1), 80);
     }
 
+    private static void yearDraws() {
+        Check.sentence("of ONE x left over by 6, by x by 6 (cut) left over by 8");
+        AbbeyNotes x = new AbbeyNotes();
+        // One ACT each, of all that are seen at once: what is drawn first and what is drawn last.
+        Check.due("965, 6912: 1 hundred is printed", x.year(965, 1, 0), 700);
+        Check.due("33, 2549: 9 hundreds are printed", x.year(33, 1, 0), 1500);
+        Check.due("977, 7812: 1 hundred is forged for A", x.year(977, 1, 0), 700);
+        Check.due("45, 3449: 9 hundreds are forged for F", x.year(45, 1, 0), 1500);
+        int[] seeds = {873, 955, 101, 55};
+        int[] ones = {0, 0, 5, 5};
+        int[] lots = {0, 0, 7, 7};
+        for (int i = 0; i < 4; i++) {
+            AbbeyNotes y = new AbbeyNotes();
+            y.lot(lots[i], 77, -1);
+            Check.due("he buys that LOT by " + seeds[i], y.year(seeds[i], 1, 0), 523);
+            Check.due("LOTS by " + seeds[i], y.year(seeds[i], 1, 2), 7);
+            y.one(ones[i], 76, 0);
+            Check.due("it is that ONE by " + seeds[i], y.year(seeds[i], 1, 2), 8);
+        }
+        // 0: C changes 20; 919: A is paid 100; 952: D pays D; 931: a month ends.
+        for (int seed : new int[] {0, 919, 952, 931}) {
+            Check.due("NOTES as they were by " + seed, x.year(seed, 1, 0), 600);
+            Check.due("LOTS as they were by " + seed, x.year(seed, 1, 2), 8);
+        }
+    }
+
     private static void yearActs() {
         Check.sentence("of m ACTS (1 to 99)");
         AbbeyNotes x = new AbbeyNotes();
@@ -231,10 +290,6 @@ public final class SentencesFourTest {
             Check.due("RATE by " + m, x.year(1, m, 1), rate[m - 1]);
             Check.due("LOTS by " + m, x.year(1, m, 2), lots[m - 1]);
         }
-        Check.due("least and most hundreds printed", x.year(965, 1, 0), 700);
-        Check.due("least and most hundreds printed", x.year(33, 1, 0), 1500);
-        Check.due("least and most hundreds forged", x.year(977, 1, 0), 700);
-        Check.due("least and most hundreds forged", x.year(45, 1, 0), 1500);
         Check.due("99 ACTS are more than 98", acts99Count(), 99);
     }
 
@@ -299,7 +354,7 @@ public final class SentencesFourTest {
     }
 
     private static void yearAtTheLimits() {
-        Check.sentence("A YEAR from all as it is; each if that can be");
+        Check.sentence("from all as it is");
         AbbeyNotes x = new AbbeyNotes();
         // 33: 9 hundreds are printed; 45: 9 hundreds are forged for F.
         x.set(0, 99099);
@@ -377,7 +432,7 @@ public final class SentencesFourTest {
     }
 
     private static void imagesAreTwo() {
-        Check.sentence("restore: OUTSIDE; STATE: it was not");
+        Check.sentence("OUTSIDE; STATE: it was not");
         AbbeyNotes x = new AbbeyNotes();
         Check.due("0 was not kept", x.restore(0), Check.STATE);
         Check.due("1 was not kept", x.restore(1), Check.STATE);
@@ -421,7 +476,7 @@ public final class SentencesFourTest {
     }
 
     private static void toldNumbers() {
-        Check.sentence("0 signs .. 8 RATE; 10 times (1 and a ONE) and 0, 1, 2; 100 and 10 times a LOT and 0, 1; 200 and ..: OUTSIDE");
+        Check.sentence("10 times (1 and a ONE) and 0 PAPER, 1 COIN, 2 LOTS (bits); 100 and 10 times a LOT and 0 PRICE");
         for (int from = -300; from < 600; from += 300) {
             AbbeyNotes x = Scene.make();
             for (int what = from; what < from + 300; what++) {
@@ -441,7 +496,8 @@ public final class SentencesFourTest {
     }
 
     private static void toldWhat() {
-        Check.sentence("1 whose it is (NONE: the STATE's); what the first OWES that one (of himself 0)");
+        Check.sentence("1 whose it is (NONE: the STATE's); "
+            + "200 and 10 times a ONE and another one: what the first OWES that one (of himself 0)");
         AbbeyNotes x = new AbbeyNotes();
         for (int i = 0; i < 6; i++) {
             x.one(i, 9990 + i, 9980 + i);

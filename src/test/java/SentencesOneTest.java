@@ -109,7 +109,8 @@ public final class SentencesOneTest {
     }
 
     private static void lots() {
-        Check.sentence("LOTS 0 to 7 of land each have a PRICE (1 to 999; 100 at first), and are the STATE's (at first), or some ONE's");
+        Check.sentence("LOTS 0 to 7 of land each have a PRICE (1 to 999; 100 at first), "
+            + "and are the STATE's (at first), or some ONE's");
         for (int lot = 0; lot < 8; lot++) {
             AbbeyNotes x = new AbbeyNotes();
             Check.due("at first", x.lot(lot, 1, -1), 100);
@@ -317,6 +318,14 @@ public final class SentencesOneTest {
         Check.due("fell", x.fell(100), Check.NONE);
         Check.due("done", x.done(), 0);
         Check.same("as before", Check.all(x), before);
+        Check.say(x, "+9.A>A");
+        Check.due("some ACT can not be", x.judge(1), 1);
+        Check.due("below 100", x.fell(100), Check.STATE);
+        x.wipe();
+        Check.due("nothing is left of it", x.judge(0), Check.NONE);
+        Check.due("nothing is left of it, months", x.judge(2), 0);
+        Check.due("nothing is left of it, fell", x.fell(100), Check.NONE);
+        Check.due("nothing is left of it, done", x.done(), 0);
     }
 
     private static void prints() {
@@ -366,7 +375,8 @@ public final class SentencesOneTest {
     }
 
     private static void changes() {
-        Check.sentence("/ and a digit 1 to 9 (he changes so many tens of PAPER with the STATE for COIN, what they are worth by RATE ahead of it, cut)");
+        Check.sentence("/ and a digit 1 to 9 (he changes so many tens of PAPER with the STATE for COIN, "
+            + "what they are worth by RATE ahead of it, cut; the STATE has the PAPER then)");
         for (int n = 1; n <= 9; n++) {
             int one = n % 6;
             AbbeyNotes x = new AbbeyNotes();

@@ -174,6 +174,8 @@ public final class SentencesThreeTest {
         for (int i = 0; i < below.length; i++) {
             Check.due("below " + below[i], x.runs(1000, 0, below[i]), month[i]);
         }
+        Check.due("812 is 98, +200: 1012 is 79", x.runs(812, 0, 79), 2);
+        Check.due("813 is 98, +200: 1013 is 78", x.runs(813, 0, 79), 1);
     }
 
     private static void runsCut() {
@@ -270,7 +272,7 @@ public final class SentencesThreeTest {
     }
 
     private static void changeAtOnce() {
-        Check.sentence("at last (with m 0 at once) he must; with m 0 he does: 1, and v in the mean");
+        Check.sentence("with m 0 he does: 1, and v in the mean");
         AbbeyNotes x = new AbbeyNotes();
         for (int v : new int[] {0, 1, 37, 59, 60}) {
             for (int t : new int[] {0, 5, 10}) {
@@ -295,7 +297,7 @@ public final class SentencesThreeTest {
     }
 
     private static void changeIfTheSame() {
-        Check.sentence("whether he changes at once (1, 0; if it is the same, he does)");
+        Check.sentence("whether he changes at once (1, 0; if it is the same, he does");
         AbbeyNotes x = new AbbeyNotes();
         fraction(x, 1, 1, 5, 1, 1, 1);
         fraction(x, 1, 1, 4, 6, 5, 0);

@@ -123,7 +123,7 @@ public final class SentencesTwoTest {
     }
 
     private static void fellByMonthsOfTheText() {
-        Check.sentence("FELL: the first month of the text (from 0 on; those alone that end in the text, by a . )");
+        Check.sentence("FELL: the first month of the text (from 0 on; those alone that end in the text, by a . ");
         AbbeyNotes x = new AbbeyNotes();
         Check.due("no text", x.fell(100), Check.NONE);
         Check.say(x, "..+9.");
@@ -186,7 +186,7 @@ public final class SentencesTwoTest {
     }
 
     private static void doneRefused() {
-        Check.sentence("done: NO, STATE, likewise");
+        Check.sentence("MONTHS are DONE (the PAD is empty then): ACTS. NO, STATE, likewise");
         AbbeyNotes x = new AbbeyNotes();
         Check.say(x, ".+1A");
         String before = Check.all(x);
