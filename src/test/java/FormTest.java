@@ -86,6 +86,26 @@ public final class FormTest {
         }
         Check.due("arrows and double colons", code.contains("->") || code.contains("::") || code.contains("Exact(") ? 1 : 0, 0);
         callsMakeNothing(code);
+        methodsAreShort(text);
+    }
+
+    /** Rule 11: some sixty lines, and seven parameters at the most. */
+    private static void methodsAreShort(String text) {
+        String[] lines = text.split("\n");
+        int methods = 0;
+        for (int i = 0; i < lines.length; i++) {
+            if (lines[i].matches("( {4}| {8})[\\w\\[\\] ]+\\([\\w\\[\\], ]*\\) \\{")) {
+                String end = lines[i].replaceAll("\\S.*", "") + "}";
+                int last = i;
+                while (last < lines.length && !lines[last].equals(end)) {
+                    last++;
+                }
+                Check.due("sixty lines at the most:" + lines[i], last - i <= 60 ? 1 : 0, 1);
+                Check.due("seven parameters at the most:" + lines[i], lines[i].split(",").length <= 7 ? 1 : 0, 1);
+                methods++;
+            }
+        }
+        Check.due("methods were found", methods > FACE.length ? 1 : 0, 1);
     }
 
     /** All rows are made with the object: a new stands in a field or in the constructor alone. */

@@ -55,25 +55,25 @@ public final class NumbersTest {
         number("total(v)", 0, 5, Check.OUTSIDE, (x, v) -> x.total(v));
         Check.sentence("at the end of which RATE is below v (0 to 100)");
         number("fell(v)", 0, 100, Check.OUTSIDE, (x, v) -> x.fell(v));
-        Check.sentence("STRUCK: payments (what = 0), how much (1)");
+        Check.sentence("STRUCK: payments (what = 0), how much (1). OUTSIDE");
         number("struck(v)", 0, 1, Check.OUTSIDE, (x, v) -> x.struck(v));
     }
 
     private static void printing() {
-        Check.sentence("so that RATE is v (1 to 100) or more");
+        Check.sentence("PRINTS; NONE. OUTSIDE");
         number("prints(v)", 1, 100, Check.OUTSIDE, (x, v) -> x.prints(v));
         Check.sentence("one who has v PAPER (0 to 9999)");
         number("buys(v, 0)", 0, 9999, Check.OUTSIDE, (x, v) -> x.buys(v, 0));
         number("buys(v, 1)", 0, 9999, Check.OUTSIDE, (x, v) -> x.buys(v, 1));
-        Check.sentence("BUYS: how much (what = 0), which (1)");
+        Check.sentence("BUYS: how much (what = 0), which (1). OUTSIDE");
         number("buys(0, v)", 0, 1, Check.OUTSIDE, (x, v) -> x.buys(0, v));
         Check.sentence("NOTES are x (1 to 99999)");
         number("runs(v, 0, 1)", 1, 99999, Check.OUTSIDE, (x, v) -> x.runs(v, 0, 1));
         Check.sentence("each month g (0 to 99) of each hundred of them more are printed");
         number("runs(1, v, 1)", 0, 99, Check.OUTSIDE, (x, v) -> x.runs(1, v, 1));
-        Check.sentence("at the beginning of which RATE is below v (1 to 100)");
+        Check.sentence("RUNS; NONE. OUTSIDE");
         number("runs(1, 0, v)", 1, 100, Check.OUTSIDE, (x, v) -> x.runs(1, 0, v));
-        Check.sentence("OUTSIDE: prices 0 to 999999999, n");
+        Check.sentence("WAGES. OUTSIDE: prices 0 to 999999999, n");
         number("wages(v, 0)", 0, 999999999, Check.OUTSIDE, (x, v) -> x.wages(v, 0));
         number("wages(v, 8)", 0, 999999999, Check.OUTSIDE, (x, v) -> x.wages(v, 8));
         Check.sentence("the price n months (0 to 8) ahead of it");
@@ -92,12 +92,12 @@ public final class NumbersTest {
         Check.sentence("it is 3 less with t tenths (0 to 10)");
         number("change(0, 0, v, 0, 0)", 0, 10, out, (x, v) -> x.change(0, 0, v, 0, 0));
         number("change(60, 8, v, 1, 1)", 0, 10, out, (x, v) -> x.change(60, 8, v, 1, 1));
-        Check.sentence("the mean (what = 0), whether (1: 1, 0, be part 0 or 1)");
+        Check.sentence("CHANGE: the mean (what = 0), whether (1: 1, 0, be part 0 or 1). OUTSIDE");
         number("change(0, 0, 0, v, 0)", 0, 1, out, (x, v) -> x.change(0, 0, 0, v, 0));
         number("change(60, 8, 10, v, 1)", 0, 1, out, (x, v) -> x.change(60, 8, 10, v, 1));
         number("change(0, 0, 0, 0, v)", 0, 1, out, (x, v) -> x.change(0, 0, 0, 0, v));
         number("change(60, 8, 10, 1, v)", 0, 1, out, (x, v) -> x.change(60, 8, 10, 1, v));
-        Check.sentence("of n notes (1 to 30)");
+        Check.sentence("SAMPLE. OUTSIDE");
         number("sample(v, 0, 0, 0, 0)", 1, 30, out, (x, v) -> x.sample(v, 0, 0, 0, 0));
         Check.sentence("f (0 to n) are forged");
         number("sample(1, v, 0, 0, 0)", 0, 1, out, (x, v) -> x.sample(1, v, 0, 0, 0));
@@ -133,9 +133,9 @@ public final class NumbersTest {
         number("year(v, 1, 0)", 0, 9999, Check.OUTSIDE, (x, v) -> x.year(v, 1, 0));
         Check.sentence("of m ACTS (1 to 99)");
         number("year(0, v, 0)", 1, 99, Check.OUTSIDE, (x, v) -> x.year(0, v, 0));
-        Check.sentence("A YEAR: NOTES (what = 0), RATE (1), LOTS (2)");
+        Check.sentence("A YEAR: NOTES (what = 0), RATE (1), LOTS (2). OUTSIDE");
         number("year(0, 1, v)", 0, 2, Check.OUTSIDE, (x, v) -> x.year(0, 1, v));
-        Check.sentence("All but the PAD is kept in an IMAGE (0, 1)");
+        Check.sentence("All but the PAD is kept in an IMAGE (0, 1): 1. OUTSIDE");
         number("image(v)", 0, 1, Check.OUTSIDE, (x, v) -> x.image(v));
         number("restore(v)", 0, 1, Check.OUTSIDE, (x, v) -> x.restore(v));
     }

@@ -116,7 +116,7 @@ public final class RefusalsTest {
     }
 
     private static void outsideAheadOfFull() {
-        Check.sentence("OUTSIDE; FULL");
+        Check.sentence("STATE -3 (as told), FULL -4");
         AbbeyNotes x = new AbbeyNotes();
         Check.say(x, ".".repeat(60));
         Check.due("say(32), full", x.say(32), Check.OUTSIDE);
@@ -229,6 +229,8 @@ public final class RefusalsTest {
             Check.due("whether by part " + part, x.change(10, 2, 3, 1, part), -1000000000000000002L);
             Check.due("sample by part " + part, x.sample(10, 2, 3, 1, part), -1000000000000000002L);
         }
+        Check.sentence("What is told of fractions that are refused: GONE and the refusal");
+        Check.due("GONE and OUTSIDE", AbbeyNotes.GONE + AbbeyNotes.OUTSIDE, -1000000000000000002L);
         Check.due("all numbers outside", x.change(-1, -1, -1, -1, -1), -1000000000000000002L);
         Check.due("all numbers outside", x.sample(-1, -1, -1, -1, -1), -1000000000000000002L);
     }

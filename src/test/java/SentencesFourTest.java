@@ -497,7 +497,7 @@ public final class SentencesFourTest {
 
     private static void toldWhat() {
         Check.sentence("1 whose it is (NONE: the STATE's); "
-            + "200 and 10 times a ONE and another one: what the first OWES that one (of himself 0)");
+            + "200 and 10 times a ONE and another one: what the first OWES that one (of himself 0). OUTSIDE");
         AbbeyNotes x = new AbbeyNotes();
         for (int i = 0; i < 6; i++) {
             x.one(i, 9990 + i, 9980 + i);

@@ -20,6 +20,8 @@ public final class SentencesThreeTest {
         changeNotBelowNothing();
         changeIfTheSame();
         changeForCertain();
+        changeMayWait();
+        changeDoingBest();
         changeInLowestTerms();
         asThingsAreNow();
         Check.finish("SentencesThreeTest");
@@ -319,6 +321,40 @@ public final class SentencesThreeTest {
             fraction(x, 0, m, 10, 0, 1, 1);
             fraction(x, 1, m, 10, 1, 1, 1);
         }
+    }
+
+    /** Who may wait a month longer never has less by it, nor more than 1 for it; and v at the least. */
+    private static void changeMayWait() {
+        Check.sentence("each of m months (0 to 8) he may change (he has v COIN), or wait");
+        for (int v = 0; v <= 60; v += 4) {
+            AbbeyNotes x = new AbbeyNotes();
+            for (int t = 0; t <= 10; t += 2) {
+                for (int m = 0; m < 8; m++) {
+                    long upper = x.change(v, m, t, 0, 0);
+                    long lower = x.change(v, m, t, 0, 1);
+                    long longerUpper = x.change(v, m + 1, t, 0, 0);
+                    long longerLower = x.change(v, m + 1, t, 0, 1);
+                    String call = "change " + v + " " + m + " " + t;
+                    Check.due(call + " v at the least", upper >= v * lower ? 1 : 0, 1);
+                    Check.due(call + " a month longer", longerUpper * lower >= upper * longerLower ? 1 : 0, 1);
+                    Check.due(call + " 1 more", longerUpper * lower <= (upper + lower) * longerLower ? 1 : 0, 1);
+                }
+            }
+        }
+    }
+
+    private static void changeDoingBest() {
+        Check.sentence("at last (with m 0 at once) he must: what he has in the mean, doing best");
+        AbbeyNotes x = new AbbeyNotes();
+        // At 0 he waits: 4/10 at last. At 1 he changes: 1, for waiting is 4/10 of 2. To wait for ever were 56/100.
+        fraction(x, 0, 2, 6, 16, 25, 0);
+        // At 2 he waits (for 7/10 of 3), at 3 he changes (7/10 of 4 is less); so in two months from 2 on it is
+        // 3/10 of the 7/10 that 0 brings, and 7/10 of 3.
+        fraction(x, 2, 1, 3, 21, 10, 0);
+        fraction(x, 2, 2, 3, 231, 100, 0);
+        fraction(x, 3, 1, 3, 3, 1, 1);
+        // At last he must, though it is 3 less: from 5 by t 2 it is 8/10 of 6 and 2/10 of 2.
+        fraction(x, 5, 1, 2, 26, 5, 0);
     }
 
     private static void changeInLowestTerms() {
